@@ -29,6 +29,9 @@ public final class CaseTest {
         deadOf("one;one;gone 0;gone 1;rule 1 0 any 0 first;rule 2 0 fact 0 first;", 2, 1, 2);
         deadOf("one;one 0;rule 2 0 any 0 last;rule 1 0 tried 0 last;rule 3 0 bare 1 last;"
             + "rule 4 1 kin 0 last;", 0, 3, 5);
+        // what gives in just one case, and what fails in just that one
+        deadOf("one;one;one;rule 1 0 born 3 last;rule 2 1 any 0 third;", 0, 0, 0);
+        deadOf("one;one 0;one 0;rule 1 0 bare 1 last;rule 2 0 bare 0 first;", 0, 2, 0);
         // with nobody there is no case in which somebody is not gone
         deadOf("rule 1 0 any 0 first;rule 2 0 fact 0 last;", 3, 3, 3);
         ThirdSon x = Check.told(DUCHY);
@@ -70,6 +73,10 @@ public final class CaseTest {
         x.tries(2, 1);
         x.tries(4, 1);
         Check.due("who(1) by TRIES", x.who(1), 30);
+        ThirdSon y = Check.told("one;one;one;rule 1 3 any 0 third;");
+        Check.due("who(3) in one case", y.who(3), 4);
+        Check.due("via(2, 3) in one case", y.via(2, 3), 1);
+        Check.due("via(1, 3) in none", y.via(1, 3), 0);
         Check.due("who(-1)", x.who(-1), -1);
         Check.due("who(4)", x.who(4), -1);
     }

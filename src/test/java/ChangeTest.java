@@ -73,8 +73,10 @@ public final class ChangeTest {
         ThirdSon x = Check.told("one;one;fact 0 0;fact 0 4;fact 1 0;gone 1;");
         Check.due("hush(0, 4)", x.hush(0, 4), 1);
         Check.due("hush(0, 4) again", x.hush(0, 4), 0);
+        Check.due("hush(1, 3)", x.hush(1, 3), 0);
+        Check.due("hush(0, 0)", x.hush(0, 0), 1);
         Check.due("hush(1, 0)", x.hush(1, 0), 1);
-        Check.due("FACTS of 0", x.one(0, 1), 1);
+        Check.due("FACTS of 0", x.one(0, 1), 0);
         Check.due("FACTS of 1", x.one(1, 1), 0);
         Check.due("TRIES of 0", x.one(0, 2), 0);
         Check.due("hush(0, 5)", x.hush(0, 5), -1);
@@ -103,7 +105,8 @@ public final class ChangeTest {
         Check.due("rank(0, 5)", x.rank(0, 5), -2);
         Check.due("rank(0, 2), its own", x.rank(0, 2), 2);
         Check.due("rank(0, 3), of another THING", x.rank(0, 3), 2);
-        Check.due("rank(0, 9)", x.rank(0, 9), 3);
+        Check.due("rank(0, 1)", x.rank(0, 1), 3);
+        Check.due("rank(0, 9)", x.rank(0, 9), 1);
         Check.due("owner behind", x.owner(0), 1);
         Check.due("RANK", x.law(0, 0), 9);
         Check.due("rank(1, 9)", x.rank(1, 9), -2);

@@ -104,6 +104,13 @@ public final class DeedTest {
         ThirdSon y = Check.told("one;one 0;one 0;rule 1 0 bare 1 first;");
         Check.due("owner ahead", y.owner(0), -4);
         Check.due("pivot of what is nobody's", y.pivot(0), 6);
+        ThirdSon z = Check.told("one;one;rule 1 0 any 0 first;rule 1 1 any 0 last;");
+        Check.due("pivot(0), the first of two", z.pivot(0), 1);
+        Check.due("pivot(1), the last of two", z.pivot(1), 2);
+        z.does(6);
+        Check.due("pivot(0), the first gone", z.pivot(0), 2);
+        z.does(16);
+        Check.due("pivot(0), all gone", z.pivot(0), 0);
     }
 
     private static void spoils() {
@@ -117,6 +124,19 @@ public final class DeedTest {
         Check.due("spoils(0) with 3 TRIES", x.spoils(0), 0);
         Check.due("spoils(3)", x.spoils(3), -1);
         Check.due("spoils(-1)", x.spoils(-1), -1);
+        ThirdSon z = Check.told("one;one;one;one;rule 1 0 tried 2 third;rule 2 0 tried 0 last;"
+            + "rule 1 1 tried 1 third;rule 2 1 tried 0 last;");
+        z.tries(0, 2);
+        z.tries(1, 2);
+        Check.due("spoils(3): one deed is not two", z.spoils(3), 0);
+        z.tries(3, 1);
+        z.tries(2, 1);
+        z.does(36);
+        Check.due("spoils(2) of a third who stays", z.spoils(2), 0);
+        ThirdSon w = Check.told("one;one;one;one;fact 3 1;fact 0 1;rule 1 2 fact 1 third;"
+            + "rule 2 2 born 2 first;");
+        Check.due("spoils(1) of a later one", w.spoils(1), 4);
+        Check.due("spoils(2), who has nothing", w.spoils(2), 0);
         ThirdSon y = Check.told("one;one;one;fact 0 0;fact 0 1;fact 0 2;fact 0 3;fact 0 4;"
             + "rule 1 3 tried 1 third;rule 2 3 any 0 first;");
         y.tries(1, 1);

@@ -71,6 +71,14 @@ public final class SheetTest {
         Check.due("CELLS stay", x.count(3), 40);
         Check.due("sheet(0, 2, 0)", x.sheet(0, 2, 0), 1);
         Check.due("no CELLS", x.count(3), 0);
+        Check.due("one who fails", Check.tell(x, "one;"), 1);
+        x.sheet(2, 1, 3);
+        x.lay(2, 0, 5);
+        x.lay(2, 1, 6);
+        Check.due("sheet(2, 1, 2)", x.sheet(2, 1, 2), 1);
+        Check.due("CELLS are 0 anew", x.read(2, 1, 0, 1), 1);
+        Check.due("FACT 0 is known", x.one(0, 1), 1);
+        Check.due("FACT 0 is known already", x.read(2, 1, 1, 1), -20);
         Check.due("sheet(3, 2, 1)", x.sheet(3, 2, 1), 1);
         Check.due("lay(3, 0, 1)", x.lay(3, 0, 1), 1);
     }

@@ -98,6 +98,7 @@ public final class TextTest {
         takes("rule 1 0 any 0 first;rule 1 1 any 0 first;", 2);
         takes("odds 0 0;odds 1 10;odds 2 05;", 3);
         takes("one;one 0;one 0;one 1;one;one 4;", 6);
+        takes("one;one;one;one;one;one;fact 5 4;gone 5;rule 9 3 kin 5 last;", 9);
         ThirdSon x = Check.told("fact 0 4;one;one 0;odds 3 10;rule 9 3 born 6 third;gone 1;");
         Check.due("told: FACTS", x.one(0, 1), 16);
         Check.due("told: PARENT", x.one(1, 0), 0);
@@ -125,6 +126,8 @@ public final class TextTest {
         refuses("One;", 1, 0);
         refuses("oneE;", 1, 3);
         refuses("one,", 1, 3);
+        refuses("one;\0", 1, 4);
+        refuses("\0one;", 1, 0);
         refuses("123;", 1, 0);
         refuses("one;  one 000;", 1, 10);
         refuses("fact 001 0;", 1, 5);
@@ -138,6 +141,9 @@ public final class TextTest {
         refuses("12;", 2, 0);
         refuses("any;", 2, 0);
         refuses("ones;", 2, 0);
+        refuses("nne;", 2, 0);
+        refuses("z;", 2, 0);
+        refuses("onez;", 2, 0);
         refuses("on e;", 2, 0);
         refuses("onE;", 2, 0);
         refuses("one", 2, 3);
@@ -195,6 +201,9 @@ public final class TextTest {
         refuses("gone 5;gone 5?", 4, 12);
         refuses("odds 4 1;odds 4 99;", 4, 14);
         refuses("odds 4 5;odds 4 5;", 4, 14);
+        refuses("odds 4 5;odds 3 5;odds 4 5;", 4, 23);
+        refuses("gone 1;gone 0;gone 1;", 4, 19);
+        refuses("fact 1 1;fact 1 0;fact 1 1;", 4, 25);
         takes("one;one;fact 0 1;fact 1 1;fact 0 2;gone 0;gone 1;", 7);
     }
 
@@ -212,6 +221,10 @@ public final class TextTest {
         refuses("one;fact 1 0;", 6, 13);
         refuses("fact 0 0;  ", 6, 11);
         refuses("gone 0;   ", 6, 10);
+        refuses("one;fact 1 0;fact 0 0;", 6, 22);
+        refuses("one;gone 1;gone 0;", 6, 18);
+        refuses("one;gone 1;fact 0 0;", 6, 20);
+        refuses("one;rule1 0kin5last;rule2 0kin0last;", 6, 36);
         refuses("rule 1 0 kin 0 last;", 6, 20);
         refuses("one;rule 1 0 kin 1 last;", 6, 24);
         refuses("rule 1 0 any 0 first;rule 1 0 any 0 last;", 7, 41);
@@ -242,7 +255,32 @@ public final class TextTest {
         Check.due("RULES of the empty text", x.rule(1), 0);
     }
 
+    /** A text more, and one more, for what was told long ago. */
     private static void whatIsAsAtFirst() {
+        String dear = "one;one 0;one 1;one;fact 0 1;fact 3 1;gone 0;gone 3;odds 0 1;odds 4 9;"
+            + "rule 1 0 kin 0 last;";
+        ThirdSon x = Check.told(dear);
+        x.tries(0, 1);
+        x.tries(3, 3);
+        Check.due("with a fault", Check.tell(x, dear + "?"), -10 - dear.length());
+        Check.due("no line", x.text(), 0);
+        String people = "one;one;one;one;rule 1 0 kin 0 last;";
+        Check.due("four people", Check.tell(x, people), 5);
+        for (int p = 0; p < 4; p++) {
+            int[] one = {-4, 0, 0, 0, p + 1, 0};
+            for (int what = 0; what < 6; what++) {
+                Check.due("long ago: one(" + p + ", " + what + ")", x.one(p, what), one[what]);
+            }
+        }
+        for (int f = 0; f < 5; f++) {
+            Check.due("long ago: odd(" + f + ")", x.odd(f), 5);
+        }
+        Check.due("long ago: who is kin of 0", x.law(0, 5), 0);
+        Check.due("long ago: RULES", x.rule(1), 1);
+        lately();
+    }
+
+    private static void lately() {
         ThirdSon x = Check.told("one;one 0;fact 1 2;odds 2 7;gone 0;rule 4 2 any 0 last;");
         x.tries(1, 2);
         x.see(2, 1);

@@ -71,6 +71,11 @@ public final class TryingTest {
         // 1 has fact 3 now, so only fact 0 helps: 4 of ten, then 6 of ten times 4 of ten
         bestOf(x, 0, 0, 1, 2, 5, 0);
         bestOf(x, 0, 0, 2, 16, 25, 0);
+        // what he knows already stays known: the third of three has it
+        ThirdSon z = Check.told("one;one;one;fact 0 1;fact 1 1;fact 2 1;rule 1 0 fact 1 third;"
+            + "rule 2 0 fact 0 last;");
+        bestOf(z, 0, 0, 2, 0, 1, 5);
+        bestOf(z, 2, 0, 2, 1, 1, 5);
         // who tries at all loses it: three who have tried
         ThirdSon y = Check.told("one;one;one;rule 1 0 tried 1 third;rule 2 0 any 0 first;");
         y.tries(1, 1);
@@ -146,6 +151,13 @@ public final class TryingTest {
         fitsAs(x, "who is GONE is not in a case", 4, 24, 24, 4);
         Check.due("fits(4)", x.fits(4), -1);
         Check.due("fits(-1)", x.fits(-1), -1);
+        ThirdSon z = Check.told("one;one;one;rule 1 0 any 0 first;");
+        z.see(0, 1);
+        fitsAs(z, "1 has what is the first's", 2, 1, 1, 2);
+        z.forget(0);
+        z.see(1, -4);
+        z.see(0, 0);
+        fitsAs(z, "0 has it", 4, 0, 0, 1);
         ThirdSon y = new ThirdSon();
         fitsAs(y, "nobody there", 1, 0, 0, 0);
         y.see(0, -4);
