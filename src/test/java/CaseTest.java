@@ -29,6 +29,7 @@ public final class CaseTest {
         deadOf("one;one;gone 0;gone 1;rule 1 0 any 0 first;rule 2 0 fact 0 first;", 2, 1, 2);
         deadOf("one;one 0;rule 2 0 any 0 last;rule 1 0 tried 0 last;rule 3 0 bare 1 last;"
             + "rule 4 1 kin 0 last;", 0, 3, 5);
+        deadOf("one;rule 1 0 fact 0 first;", 1, 0, 1);
         // what gives in just one case, and what fails in just that one
         deadOf("one;one;one;rule 1 0 born 3 last;rule 2 1 any 0 third;", 0, 0, 0);
         deadOf("one;one 0;one 0;rule 1 0 bare 1 last;rule 2 0 bare 0 first;", 0, 2, 0);

@@ -53,6 +53,9 @@ public final class TryingTest {
         x.tries(1, 0);
         x.does(16);
         bestOf(x, 1, 0, 3, 0, 1, 5);
+        ThirdSon w = Check.told("one;one;fact 0 0;odds 0 9;rule 1 0 fact 0 last;");
+        bestOf(w, 1, 0, 1, 9, 10, 0);
+        bestOf(w, 0, 0, 1, 1, 1, 5);
         ThirdSon y = Check.told("one;fact 0 0;rule 1 0 tried 1 last;");
         bestOf(y, 0, 0, 1, 1, 1, 1);
         ThirdSon z = Check.told("one;fact 0 0;fact 0 1;fact 0 2;fact 0 3;fact 0 4;"
@@ -158,6 +161,9 @@ public final class TryingTest {
         z.see(1, -4);
         z.see(0, 0);
         fitsAs(z, "0 has it", 4, 0, 0, 1);
+        ThirdSon w = Check.told("one;one 0;one 0;rule 1 0 bare 1 last;");
+        w.see(0, 0);
+        fitsAs(w, "just one of two is gone", 2, 2, 0, 1);
         ThirdSon y = new ThirdSon();
         fitsAs(y, "nobody there", 1, 0, 0, 0);
         y.see(0, -4);
