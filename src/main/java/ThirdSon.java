@@ -692,9 +692,7 @@ public final class ThirdSon {
         final int[] picks = new int[MOST_RULES];
 
         Duchy() {
-            for (int f = 0; f < FACTS; f++) {
-                odds[f] = FIRST_ODDS;
-            }
+            clear();
         }
 
         void clear() {

@@ -29,7 +29,7 @@ public final class RandomTest {
     private void run() {
         writeAndTake(randomText());
         while (calls < 440) {
-            if (random.nextInt(40) == 0) {
+            if (random.nextInt(60) == 0) {
                 writeAndTake(randomText());
             } else {
                 call(random.nextInt(39));
@@ -71,6 +71,10 @@ public final class RandomTest {
         if (calls + 1 >= 512) {
             return;
         }
+        if (random.nextInt(10) > 0) {
+            x.end(0);
+            due.end(0);
+        }
         for (int i = 0; i < text.length(); i++) {
             x.feed(text.charAt(i));
             due.feed(text.charAt(i));
@@ -81,14 +85,14 @@ public final class RandomTest {
 
     private String randomText() {
         List<String> lines = new ArrayList<>();
-        int people = random.nextInt(8) == 0 ? random.nextInt(8) : 3 + random.nextInt(4);
-        int rules = random.nextInt(8) == 0 ? random.nextInt(7) : 2 + random.nextInt(4);
+        int people = random.nextInt(12) == 0 ? random.nextInt(8) : 3 + random.nextInt(4);
+        int rules = random.nextInt(12) == 0 ? random.nextInt(7) : 2 + random.nextInt(4);
         for (int p = 0; p < people; p++) {
             boolean child = p > 0 && random.nextInt(3) > 0;
             lines.add(child ? "one" + gap() + random.nextInt(random.nextInt(p) + 1) : "one");
         }
         for (int k = 0; k < rules; k++) {
-            lines.add(random.nextInt(lines.size() + 1), randomRule(Math.max(1, people)));
+            lines.add(random.nextInt(lines.size() + 1), randomRule(k, Math.max(1, people)));
         }
         int known = random.nextInt(4);
         for (int i = 0; i < known; i++) {
@@ -105,25 +109,31 @@ public final class RandomTest {
         for (String line : lines) {
             text.append(line).append(gap()).append(";").append(gap());
         }
-        for (int hurt = random.nextInt(6) - 4; hurt >= 0 && text.length() > 0; hurt--) {
+        for (int hurt = random.nextInt(10) - 8; hurt >= 0 && text.length() > 0; hurt--) {
             spoil(text);
         }
-        return text.length() > 160 ? text.substring(0, 160) : text.toString();
+        if (text.length() > 160) {
+            text.setLength(160);
+            text.setLength(text.lastIndexOf(";") + 1);
+        }
+        return text.toString();
     }
 
     private String gap() {
         return random.nextInt(6) == 0 ? " " : "";
     }
 
-    private String randomRule(int people) {
-        int claim = random.nextInt(6);
+    private String randomRule(int k, int people) {
+        // facts and tries bear more of what deeds can change
+        int claim = random.nextInt(3) == 0 ? 2 + random.nextInt(2) : random.nextInt(6);
+        int rank = random.nextInt(12) == 0 ? 1 + random.nextInt(9) : 1 + (4 * k + people) % 9;
         int[] most = {9, 4, 4, 3, people - 1, 3};
         int number = claim == 1 ? 1 + random.nextInt(4) : random.nextInt(most[claim] + 1);
         if (claim == 2) {
             number = random.nextInt(3);
         }
-        return "rule" + gap() + (1 + random.nextInt(9)) + " "
-            + (random.nextInt(2) * random.nextInt(4)) + gap() + CLAIMS[claim] + number + gap()
+        return "rule" + gap() + rank + " "
+            + (random.nextInt(3) == 0 ? random.nextInt(4) : 0) + gap() + CLAIMS[claim] + number + gap()
             + PICKS[random.nextInt(3)];
     }
 
@@ -217,7 +227,8 @@ public final class RandomTest {
             case 12:
             case 13:
                 // three deeds are dear to the slow telling
-                n = n == 3 && random.nextInt(20) > 0 ? 2 : n;
+                boolean dear = due.world.people.size() > 4 && random.nextInt(20) > 0;
+                n = n == 3 && dear ? 2 : n;
                 t = random.nextInt(3) == 0 ? t : 0;
                 w = random.nextInt(5) == 0 ? upTo(14) : random.nextInt(2) * (10 + upTo(2));
                 check("claim(" + a + ", " + t + ", " + n + ", " + w + ")", x.claim(a, t, n, w),
@@ -267,7 +278,8 @@ public final class RandomTest {
 
     private void callRest(int promise) {
         int a = upTo(3);
-        int b = upTo(2);
+        // most sheets keep to one lane, so that they can be read
+        int b = random.nextInt(4) == 0 ? upTo(2) : (a & 3) % 3;
         int c;
         int d;
         switch (promise) {
