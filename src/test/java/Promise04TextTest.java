@@ -19,6 +19,7 @@ public final class Promise04TextTest {
         fault1();
         fault2WhereALineBegins();
         fault2InALine();
+        fault2OfOneLetter();
         fault2TheEnd();
         fault3();
         fault3Parents();
@@ -157,6 +158,31 @@ public final class Promise04TextTest {
         refuses("rule 1 0 any 0 second;", 2, 15);
         refuses("rule 1 0 any 0 first 0;", 2, 21);
         refuses("rule 1 0 any 0 first last;", 2, 21);
+    }
+
+    /** A NAME of which one letter is another one, or is not there, or is there twice. */
+    private static void fault2OfOneLetter() {
+        String[] lines = {"one 0;", "fact 0 0;", "gone 0;", "odds 0 0;", "rule 1 0 any 0 first;",
+            "rule 1 0 born 1 third;", "rule 1 0 fact 1 last;", "rule 1 0 tried 1 first;",
+            "rule 1 0 kin 0 third;", "rule 1 0 bare 1 last;"};
+        for (String line : lines) {
+            int name = 0;
+            for (int i = 0; i < line.length(); i++) {
+                char c = line.charAt(i);
+                if (c < 'a' || c > 'z') {
+                    name = i + 1;
+                    continue;
+                }
+                String ahead = "one;" + line.substring(0, i);
+                refuses(ahead + (char) (c == 'z' ? 'a' : c + 1) + line.substring(i + 1), 2, 4 + name);
+                // "gone" without its first letter is a NAME again
+                if (!line.substring(name, i + 1).equals("g")) {
+                    refuses(ahead + line.substring(i + 1), 2, 4 + name);
+                }
+                refuses(ahead + c + line.substring(i), 2, 4 + name);
+            }
+            takes("one;" + line, 2);
+        }
     }
 
     /** A line that ends ahead of its ; : the place is the length, blanks too. */

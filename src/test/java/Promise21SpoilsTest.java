@@ -8,6 +8,7 @@ public final class Promise21SpoilsTest {
     public static void main(String[] args) {
         byEachFact();
         byFailing();
+        ofEachOne();
         notByGoing();
         oneDeedAlone();
         aDeedThatCanBeDone();
@@ -36,6 +37,29 @@ public final class Promise21SpoilsTest {
         Check.due("spoils(0) by failing alone", x.spoils(0), 1);
         x.tries(2, 0);
         Check.due("spoils(0), only two would have tried", x.spoils(0), 0);
+    }
+
+    /** The last one alone can lose nothing: as the third of three he would have it. */
+    private static void ofEachOne() {
+        for (int p = 0; p <= 4; p++) {
+            int other = p == 4 ? 3 : 4;
+            for (int kind = 0; kind <= 5; kind++) {
+                ThirdSon x = Check.told("one;one;one;one;one;one;rule 1 0 "
+                    + (kind == 5 ? "tried 1" : "fact " + kind) + " third;rule 2 0 born " + (p + 1)
+                    + " first;rule 1 1 born " + (p + 1) + " first;");
+                x.does(50 + kind);
+                x.does(10 * other + kind);
+                for (int f = 0; f <= 4 && kind == 5; f++) {
+                    x.tries(p, 0);
+                    x.does(10 * p + f);
+                }
+                x.tries(p, 0);
+                Check.due("spoils(" + p + ") by DEED " + (10 * p + kind), x.spoils(p), 1);
+                Check.due("spoils(5)", x.spoils(5), 0);
+                x.tries(p, 3);
+                Check.due("spoils(" + p + ") with 3 TRIES", x.spoils(p), 0);
+            }
+        }
     }
 
     private static void notByGoing() {

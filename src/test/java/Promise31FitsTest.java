@@ -7,6 +7,7 @@ public final class Promise31FitsTest {
         nothingSeen();
         allOfSix();
         theLeast();
+        theLeastByBits();
         inAllInNone();
         oneCase();
         noCase();
@@ -60,6 +61,15 @@ public final class Promise31FitsTest {
         y.forget(0);
         y.see(0, -4);
         fits("all are GONE", y, 1, 63, 63, 0);
+    }
+
+    /** 2 or 3 is GONE, or 0 and 1 are: by bits 3 is less than 4, though more are GONE. */
+    private static void theLeastByBits() {
+        ThirdSon x = Check.told("one;one;one;one;fact1 0;fact2 0;fact3 0;fact0 1;fact2 1;fact3 1;"
+            + "rule1 0fact0third;rule1 1fact1third;");
+        x.see(0, -4);
+        x.see(1, -4);
+        fits("nobody has either", x, 13, 3, 0, 0);
     }
 
     private static void inAllInNone() {

@@ -93,6 +93,12 @@ public final class Promise32DriftTest {
             Check.due("GONE at first: owner", x.drift(seed, 1, 1), 0);
             Check.due("GONE at first: changes of 60", x.drift(seed, 60, 0), 1);
         }
+        // DEED 4 is drawn from the seed 1, but nobody is there to do it: they come back behind it
+        ThirdSon z = Check.told("one;gone 0;rule 1 0 fact 4 last;");
+        Check.due("GONE at first: the DEED is not done, changes", z.drift(1, 1, 0), 0);
+        Check.due("GONE at first: the DEED is not done, owner", z.drift(1, 1, 1), -4);
+        z.comes(0);
+        Check.due("not GONE at first: the DEED is done", z.drift(1, 1, 1), 0);
         ThirdSon y = Check.told("one;one;one;gone 0;gone 1;gone 2;rule 1 0 any 0 third;");
         Check.due("all three come back: changes", y.drift(5, 1, 0), 1);
         Check.due("all three come back: owner", y.drift(5, 1, 1), 2);
