@@ -1,11 +1,17 @@
+import java.io.IOException;
 import java.lang.reflect.Constructor;
 import java.lang.reflect.Field;
 import java.lang.reflect.Method;
 import java.lang.reflect.Modifier;
+import java.nio.file.Files;
+import java.nio.file.Path;
+import java.util.ArrayList;
 import java.util.List;
 import java.util.TreeSet;
+import java.util.regex.Matcher;
+import java.util.regex.Pattern;
 
-/** The public face is the document's, no less and no more. */
+/** The public face is the document's, no less and no more, in its order. */
 public final class FaceTest {
     private static final List<String> FACE = List.of(
         "int feed(int)", "int end(int)", "int text()", "int fault()", "int rule(int)",
@@ -19,10 +25,17 @@ public final class FaceTest {
         "int sheet(int,int,int)", "int lay(int,int,int)", "int read(int,int,int,int)",
         "int torn()", "int count(int)");
 
+    /** What the interface says, and ahead of which call. */
+    private static final String[][] SAYS = {{"the text, what there is", "feed"},
+        {"what is changed", "does"}, {"deeds", "claim"}, {"all cases", "dead"}, {"trying", "best"},
+        {"seen", "see"}, {"by a seed", "drift"}, {"images, sheets", "keep"}};
+    private static final Pattern PUBLIC =
+        Pattern.compile("^    public (int|long) (\\w+)\\(([^)]*)\\) \\{", Pattern.MULTILINE);
+
     private FaceTest() {
     }
 
-    public static void main(String[] args) {
+    public static void main(String[] args) throws IOException {
         Check.due("BAD", ThirdSon.BAD, -1);
         Check.due("STATE", ThirdSon.STATE, -2);
         Check.due("FULL", ThirdSon.FULL, -3);
@@ -30,6 +43,7 @@ public final class FaceTest {
         Check.due("final class", Modifier.isFinal(ThirdSon.class.getModifiers()) ? 1 : 0, 1);
         methods();
         others();
+        order(Files.readString(Path.of("src/main/java/ThirdSon.java")));
         Check.close("FaceTest");
     }
 
@@ -60,6 +74,8 @@ public final class FaceTest {
         for (Field f : ThirdSon.class.getDeclaredFields()) {
             if (!Modifier.isPrivate(f.getModifiers())) {
                 shown++;
+                Check.due(f + " is a constant", f.toString().equals(
+                    "public static final int ThirdSon." + f.getName()) ? 1 : 0, 1);
             }
         }
         Check.due("fields that are not private", shown, 4);
@@ -72,6 +88,23 @@ public final class FaceTest {
             Check.due(c + " is static", Modifier.isStatic(how) ? 1 : 0, 1);
             Check.due(c + " is not public",
                 Modifier.isPublic(how) || Modifier.isProtected(how) ? 1 : 0, 0);
+        }
+    }
+
+    private static void order(String source) {
+        List<String> found = new ArrayList<>();
+        Matcher call = PUBLIC.matcher(source);
+        while (call.find()) {
+            String numbers = call.group(3).replaceAll("int \\w+", "int").replace(" ", "");
+            found.add(call.group(1) + " " + call.group(2) + "(" + numbers + ")");
+        }
+        for (int i = 0; i < FACE.size(); i++) {
+            boolean same = i < found.size() && found.get(i).equals(FACE.get(i));
+            Check.due("in its order: " + FACE.get(i), same ? 1 : 0, 1);
+        }
+        for (String[] says : SAYS) {
+            Pattern ahead = Pattern.compile("// ---- " + says[0] + "\\s+public \\w+ " + says[1] + "\\(");
+            Check.due("---- " + says[0], ahead.matcher(source).find() ? 1 : 0, 1);
         }
     }
 }

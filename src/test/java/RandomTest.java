@@ -4,7 +4,11 @@ import java.util.Random;
 
 /** Runs of calls by fixed seeds, each answer compared with the document told once more. */
 public final class RandomTest {
-    private static final int RUNS = 500;
+    private static final int RUNS = 800;
+    /** What later calls answer is free. */
+    private static final int MOST_CALLS = 512;
+    private static final int CALLS_OF_A_TEXT = 163;
+    private static final int CALLS_OF_A_LOOK = 55;
     private static final String[] CLAIMS = {"any", "born", "fact", "tried", "kin", "bare"};
     private static final String[] PICKS = {"first", "third", "last"};
 
@@ -28,14 +32,17 @@ public final class RandomTest {
 
     private void run() {
         writeAndTake(randomText());
-        while (calls < 440) {
-            if (random.nextInt(60) == 0) {
+        // one call of the document may be two here: read(), then torn()
+        int most = MOST_CALLS - CALLS_OF_A_LOOK - 1;
+        while (calls < most) {
+            if (random.nextInt(60) == 0 && calls + CALLS_OF_A_TEXT <= most) {
                 writeAndTake(randomText());
             } else {
                 call(random.nextInt(39));
             }
         }
         lookAround();
+        Check.due(run + calls + ": at most 512 calls", calls <= MOST_CALLS ? 1 : 0, 1);
     }
 
     private void check(String call, long got, long want) {
@@ -68,16 +75,12 @@ public final class RandomTest {
     }
 
     private void writeAndTake(String text) {
-        if (calls + 1 >= 512) {
-            return;
-        }
         if (random.nextInt(10) > 0) {
-            x.end(0);
-            due.end(0);
+            check("end(0)", x.end(0), due.end(0));
         }
         for (int i = 0; i < text.length(); i++) {
-            x.feed(text.charAt(i));
-            due.feed(text.charAt(i));
+            char c = text.charAt(i);
+            check("feed of " + c, x.feed(c), due.feed(c));
         }
         check("text() of \"" + text + "\"", x.text(), due.text());
         check("fault()", x.fault(), due.fault());
